@@ -1,0 +1,78 @@
+public final class Promise09CancelTest {
+    private static final Check check = new Check("promise 9");
+
+    public static void main(String[] args) {
+        lastLine();
+        oneOfTwo();
+        blockedOrder();
+        refusals();
+        check.end();
+    }
+
+    private static void lastLine() {
+        for (int phase = Scenes.OPEN; phase <= Scenes.PICKING; phase++) {
+            OrderRows3 x = Scenes.atPhase(phase);
+            int version = x.told(0, 7);
+            check.due("cancel in phase " + phase, 6, x.cancel(0));
+            check.due("the order is CANCELLED", Scenes.CANCELLED, x.told(0, 0));
+            check.due("version", version + 1, x.told(0, 7));
+            check.due("lines, cancelled ones counted", 1, x.told(0, 6));
+            check.due("good 2 and rules 3 alone", 2 | 3 << 9, x.packed(0));
+            check.due("count(2)", 0, x.count(2));
+            check.due("short", 0, x.told(0, 9));
+        }
+    }
+
+    private static OrderRows3 pickingTwoLines() {
+        OrderRows3 x = Scenes.atPhase(Scenes.OPEN, 7);
+        x.line(0, 5, 4, 4);
+        x.goOn(0);
+        x.goOn(0);
+        x.pick(0, 2);
+        return x;
+    }
+
+    private static void oneOfTwo() {
+        OrderRows3 x = pickingTwoLines();
+        check.due("held 6, picked 2", 6, x.cancel(0));
+        check.due("picked then", 0, Packed.picked(x.packed(0)));
+        check.due("held then", 0, Packed.held(x.packed(0)));
+        check.due("wanted then", 0, Packed.wanted(x.packed(0)));
+        check.due("live then", 0, Packed.live(x.packed(0)));
+        check.due("the order goes on PICKING", Scenes.PICKING, x.told(0, 0));
+        check.due("the line stays in its place", 0, x.lineOf(0, 0));
+        check.due("nothing held", 0, x.cancel(1));
+        check.due("the last one", Scenes.CANCELLED, x.told(0, 0));
+        OrderRows3 other = pickingTwoLines();
+        other.cancel(1);
+        check.due("the second one", Scenes.PICKING, other.told(0, 0));
+        check.due("the first one stays live", 1, Packed.live(other.packed(0)));
+    }
+
+    private static void blockedOrder() {
+        OrderRows3 x = Scenes.atPhase(Scenes.OPEN);
+        x.block(0, 1, true);
+        check.due("a blocked order's line", 6, x.cancel(0));
+        check.due("the block stays", 2, x.told(0, 5));
+        OrderRows3 merged = Scenes.atPhase(Scenes.MERGED);
+        check.due("a line that came to another order", 6, merged.cancel(0));
+        check.due("that order is CANCELLED", Scenes.CANCELLED, merged.told(1, 0));
+        check.due("the other stays MERGED", Scenes.MERGED, merged.told(0, 0));
+    }
+
+    private static OrderRows3 cancelledBesideLive() {
+        OrderRows3 x = pickingTwoLines();
+        x.cancel(0);
+        return x;
+    }
+
+    private static void refusals() {
+        check.refuses("cancel(-1)", Check.NO_SUCH, () -> Scenes.atPhase(Scenes.OPEN), x -> x.cancel(-1));
+        check.refuses("cancel(1)", Check.NO_SUCH, () -> Scenes.atPhase(Scenes.OPEN), x -> x.cancel(1));
+        for (int phase = Scenes.PACKED; phase <= Scenes.CANCELLED; phase++) {
+            int at = phase;
+            check.refuses("cancel in phase " + at, Check.STATE, () -> Scenes.atPhase(at), x -> x.cancel(0));
+        }
+        check.refuses("a cancelled line", Check.STATE, Promise09CancelTest::cancelledBesideLive, x -> x.cancel(0));
+    }
+}
