@@ -99,7 +99,7 @@ public final class OrderRows3 {
 
     public int goOn(int order) throws NoSuchElementException, IllegalStateException {
         Order row = orderAt(order);
-        requireState(row.phase <= GONE);
+        requireState(row.phase < CLOSED);
         if (row.isBlocked() || !row.meetsNextPhase()) {
             return -1;
         }

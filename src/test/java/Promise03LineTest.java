@@ -88,6 +88,10 @@ public final class Promise03LineTest {
         refuses(Check.NO_SUCH, 2, 16, 0, 8);
         check.refuses("a wrong good in phase 1", Check.ARGUMENT,
                 () -> Scenes.atPhase(Scenes.ALLOCATED), x -> x.line(0, 16, 1, 0));
+        check.refuses("nothing wanted in phase 1", Check.ARGUMENT,
+                () -> Scenes.atPhase(Scenes.ALLOCATED), x -> x.line(0, 1, 0, 0));
+        check.refuses("wrong rules in phase 1", Check.ARGUMENT,
+                () -> Scenes.atPhase(Scenes.ALLOCATED), x -> x.line(0, 1, 1, 8));
         check.refuses("a wrong line of a full order", Check.ARGUMENT, Scenes::eightLines, x -> x.line(0, 1, 1, 8));
         check.refuses("a ninth line in phase 1", Check.STATE,
                 Promise03LineTest::eightLinesAllocated, x -> x.line(0, 1, 1, 0));

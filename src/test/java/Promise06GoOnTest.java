@@ -89,6 +89,7 @@ public final class Promise06GoOnTest {
     }
 
     private static void fromPicking() {
+        check.keeps("the only line not picked", -1, () -> Scenes.atPhase(Scenes.PICKING), x -> x.goOn(0));
         check.keeps("one line of two not picked", -1, Promise06GoOnTest::pickingTwoLines, x -> x.goOn(0));
         OrderRows3 some = pickingTwoLines();
         some.pick(1, 2);

@@ -7,13 +7,16 @@ import java.util.Random;
  * the rows stay within what the document allows, and what is refused changes nothing.
  */
 public final class WildCallsTest {
-    private static final int RUNS = 400;
+    private static final int RUNS = 1500;
     private static final int CALLS = 130;
     private static final int[] WILD = {Integer.MIN_VALUE, -1, 20, 60, 1000, 1001, 10001, Integer.MAX_VALUE};
     private static final String[] NAMES = {"order", "line", "hold", "pick", "goOn", "change", "move", "cancel", "join",
         "block", "backorder", "ready", "told", "lineOf", "packed", "count"};
     private static final String[] MAY_THROW = {"AR", "EASR", "EAS", "EAS", "ES", "EAS", "EA", "ES", "ESR",
         "EAS", "ESR", "A", "EA", "EA", "E", ""};
+
+    // What carries an order to its end comes often, what stops it seldom; else few runs would get past ALLOCATED.
+    private static final int[] KINDS = {0, 1, 1, 2, 2, 2, 2, 3, 3, 3, 3, 4, 4, 4, 4, 4, 4, 5, 6, 7, 8, 9, 10, 10, 10};
 
     private final Check check;
     private final Random random;
@@ -35,7 +38,7 @@ public final class WildCallsTest {
     private void run(int run) {
         OrderRows3 x = new OrderRows3();
         for (int k = 0; k < CALLS; k++) {
-            int kind = random.nextInt(4) == 0 ? random.nextInt(NAMES.length) : random.nextInt(11);
+            int kind = random.nextInt(9) == 0 ? random.nextInt(NAMES.length) : KINDS[random.nextInt(KINDS.length)];
             Check.Call call = someCall(kind);
             String outcome = Check.outcome(x, call);
             check.due("run " + run + ", call " + k + ", " + NAMES[kind] + " " + outcome, 1, mayCome(kind, outcome));
@@ -103,12 +106,12 @@ public final class WildCallsTest {
     }
 
     private Check.Call someCall(int kind) {
-        int order = some(0, 4);
-        int line = some(0, 9);
+        int order = some(0, 3);
+        int line = some(0, 5);
         int small = some(0, 9);
         int pieces = some(1, 6);
         int rules = some(0, 7);
-        boolean on = random.nextBoolean();
+        boolean on = random.nextInt(4) == 0;
         switch (kind) {
             case 0: return x -> x.order(rules % 2, small, pieces, small);
             case 1: return x -> x.line(order, small, pieces, rules);
