@@ -10,6 +10,10 @@ final class Check {
         long on(OrderRows3 x);
     }
 
+    interface Ask {
+        long with(OrderRows3 x, int v);
+    }
+
     static final Class<? extends RuntimeException> NO_SUCH = NoSuchElementException.class;
     static final Class<? extends RuntimeException> ARGUMENT = IllegalArgumentException.class;
     static final Class<? extends RuntimeException> STATE = IllegalStateException.class;
@@ -37,18 +41,46 @@ final class Check {
         }
     }
 
-    /** The call throws just this, and leaves its object like a twin that was never asked. */
-    void refuses(String what, Class<? extends RuntimeException> due, Scene scene, Call call) {
-        OrderRows3 x = scene.make();
-        due(what, due.getName(), outcome(x, call));
-        due("the state after " + what, State.of(scene.make()), State.of(x));
+    /** The call answers this on a new object of the scene. */
+    void answers(String what, long due, Scene scene, Call call) {
+        due(what, Long.toString(due), outcome(scene.make(), call));
     }
 
-    /** The call answers this, and leaves its object like a twin that was never asked. */
+    /** The call throws just this, and changes nothing. */
+    void refuses(String what, Class<? extends RuntimeException> due, Scene scene, Call call) {
+        leavesAsItWas(what, due.getName(), scene, call);
+    }
+
+    /** The call answers this, and changes nothing. */
     void keeps(String what, long due, Scene scene, Call call) {
-        OrderRows3 x = scene.make();
-        due(what, Long.toString(due), outcome(x, call));
-        due("the state after " + what, State.of(scene.make()), State.of(x));
+        leavesAsItWas(what, Long.toString(due), scene, call);
+    }
+
+    /** At both ends of the range and at the ends of int the call throws this, and changes nothing. */
+    void refusesOutside(String what, Class<? extends RuntimeException> due, int least, int most, Scene scene,
+            Ask ask) {
+        int[] outside = {Integer.MIN_VALUE, Integer.MIN_VALUE + 1, least - 1, most + 1, Integer.MAX_VALUE - 1,
+            Integer.MAX_VALUE};
+        for (int v : outside) {
+            refuses(what + " " + v, due, scene, x -> ask.with(x, v));
+        }
+    }
+
+    /** What the call was given at an end of the range, or beside it inside, is told then. */
+    void tellsInside(String what, int least, int most, Scene scene, Ask ask, Call told) {
+        int[] inside = {least, least + 1, most - 1, most};
+        for (int v : inside) {
+            OrderRows3 x = scene.make();
+            String answer = outcome(x, y -> ask.with(y, v));
+            due(what + " " + v + " threw " + answer, 0, threw(answer) ? 1 : 0);
+            due(what + " " + v + ", told then", Long.toString(v), outcome(x, told));
+        }
+    }
+
+    /** A number of the document's ranges: told inside, an IllegalArgumentException outside. */
+    void range(String what, int least, int most, Scene scene, Ask ask, Call told) {
+        tellsInside(what, least, most, scene, ask, told);
+        refusesOutside(what, ARGUMENT, least, most, scene, ask);
     }
 
     static String outcome(OrderRows3 x, Call call) {
@@ -59,11 +91,25 @@ final class Check {
         }
     }
 
+    static boolean threw(String outcome) {
+        return outcome.startsWith("java.");
+    }
+
     void end() {
         System.out.println(name + ": " + asked + " asked, " + wrong + " wrong");
         if (wrong != 0) {
             System.exit(1);
         }
+    }
+
+    // Twins are made for each look, since an object is promised for 512 calls alone.
+    private void leavesAsItWas(String what, String due, Scene scene, Call call) {
+        OrderRows3 x = scene.make();
+        due(what, due, outcome(x, call));
+        due("the state after " + what, State.of(scene.make()), State.of(x));
+        OrderRows3 y = scene.make();
+        outcome(y, call);
+        due("what comes after " + what, Sequel.of(scene.make()), Sequel.of(y));
     }
 
     private void tell(String text) {

@@ -3,10 +3,14 @@ public final class Promise03LineTest {
 
     public static void main(String[] args) {
         numbersAsTheyCome();
-        ranges();
+        ordersThatThereAre();
+        goods();
+        wanted();
+        rules();
         openAlone();
-        room();
-        firstRefusal();
+        blockedToo();
+        roomOfOneOrder();
+        roomOfAll();
         check.end();
     }
 
@@ -29,71 +33,66 @@ public final class Promise03LineTest {
         check.due("version of order 0", 2, x.told(0, 7));
         check.due("version of order 1", 3, x.told(1, 7));
         check.due("count(1)", 3, x.count(1));
-        x.block(0, 3, true);
-        check.due("a line of a blocked order", 3, x.line(0, 1, 1, 1));
     }
 
-    private static void ranges() {
-        refuses(Check.NO_SUCH, -1, 0, 1, 0);
-        refuses(Check.NO_SUCH, 2, 0, 1, 0);
-        refuses(Check.NO_SUCH, Integer.MAX_VALUE, 0, 1, 0);
-        refuses(Check.ARGUMENT, 0, -1, 1, 0);
-        refuses(Check.ARGUMENT, 0, 16, 1, 0);
-        refuses(Check.ARGUMENT, 0, 0, 0, 0);
-        refuses(Check.ARGUMENT, 0, 0, 1001, 0);
-        refuses(Check.ARGUMENT, 0, 0, 1, -1);
-        refuses(Check.ARGUMENT, 0, 0, 1, 8);
+    private static void ordersThatThereAre() {
+        check.refusesOutside("line of order", Check.NO_SUCH, 0, 1, Promise03LineTest::twoOrders,
+                (x, v) -> x.line(v, 0, 1, 0));
+        check.tellsInside("line of order", 0, 1, Promise03LineTest::twoOrders, (x, v) -> x.line(v, 0, 1, 0),
+                x -> Packed.order(x.packed(0)));
+        check.refusesOutside("line of order, when full of orders,", Check.NO_SUCH, 0, 19, Scenes::fullOfOrders,
+                (x, v) -> x.line(v, 0, 1, 0));
+        check.tellsInside("line of order, when full of orders,", 0, 19, Scenes::fullOfOrders,
+                (x, v) -> x.line(v, 0, 1, 0), x -> Packed.order(x.packed(0)));
     }
 
-    private static void refuses(Class<? extends RuntimeException> due, int order, int good, int wanted, int rules) {
-        check.refuses("line(" + order + ", " + good + ", " + wanted + ", " + rules + ")", due,
-                Promise03LineTest::twoOrders, x -> x.line(order, good, wanted, rules));
+    private static void goods() {
+        check.range("good", 0, 15, Promise03LineTest::twoOrders, (x, v) -> x.line(0, v, 1, 0),
+                x -> Packed.good(x.packed(0)));
+    }
+
+    private static void wanted() {
+        check.range("wanted", 1, 1000, Promise03LineTest::twoOrders, (x, v) -> x.line(0, 0, v, 0),
+                x -> Packed.wanted(x.packed(0)));
+    }
+
+    private static void rules() {
+        check.range("rules", 0, 7, Promise03LineTest::twoOrders, (x, v) -> x.line(0, 0, 1, v),
+                x -> Packed.rules(x.packed(0)));
     }
 
     private static void openAlone() {
+        check.answers("a line when OPEN", 1, () -> Scenes.atPhase(Scenes.OPEN), x -> x.line(0, 1, 1, 0));
         for (int phase = Scenes.ALLOCATED; phase <= Scenes.MERGED; phase++) {
             int at = phase;
             check.refuses("a line in phase " + at, Check.STATE, () -> Scenes.atPhase(at), x -> x.line(0, 1, 1, 0));
         }
     }
 
-    private static void room() {
-        OrderRows3 x = Scenes.eightLines();
-        check.due("eight lines", 8, x.told(0, 6));
-        check.refuses("a ninth line", Check.NO_ROOM, Scenes::eightLines, y -> y.line(0, 1, 1, 0));
-        check.refuses("a ninth line beside a cancelled one", Check.NO_ROOM, Promise03LineTest::eightWithCancelled,
-                y -> y.line(0, 1, 1, 0));
+    private static void blockedToo() {
+        check.answers("a line of a blocked order", 0, Scenes.then(Promise03LineTest::twoOrders,
+                x -> x.block(0, 3, true)), x -> x.line(0, 1, 1, 1));
+    }
+
+    private static void roomOfOneOrder() {
+        check.answers("the eighth line", 7, () -> Scenes.linesOfOne(7), x -> x.line(0, 1, 1, 0));
+        check.due("eight lines", 8, Scenes.eightLines().told(0, 6));
+        check.refuses("a ninth line", Check.NO_ROOM, Scenes::eightLines, x -> x.line(0, 1, 1, 0));
+        check.refuses("a ninth line beside a cancelled one", Check.NO_ROOM,
+                Scenes.then(Scenes::eightLines, x -> x.cancel(3)), x -> x.line(0, 1, 1, 0));
+        check.answers("the first line of another order", 8,
+                Scenes.then(Scenes::eightLines, x -> x.order(0, 2, 1, 0)), x -> x.line(1, 1, 1, 0));
+    }
+
+    private static void roomOfAll() {
+        check.answers("the 60th line", 59, () -> Scenes.lines(59), x -> x.line(7, 1, 1, 0));
         OrderRows3 full = Scenes.fullOfLines();
         check.due("sixty lines", 60, full.count(1));
         check.due("the last line's order", 7, Packed.order(full.packed(59)));
-        check.refuses("the 61st line", Check.NO_ROOM, Scenes::fullOfLines, y -> y.line(7, 1, 1, 0));
-    }
-
-    private static OrderRows3 eightWithCancelled() {
-        OrderRows3 x = Scenes.eightLines();
-        x.cancel(3);
-        return x;
-    }
-
-    private static OrderRows3 eightLinesAllocated() {
-        OrderRows3 x = Scenes.eightLines();
-        for (int line = 0; line < 8; line++) {
-            x.hold(line, 5);
-        }
-        x.goOn(0);
-        return x;
-    }
-
-    private static void firstRefusal() {
-        refuses(Check.NO_SUCH, 2, 16, 0, 8);
-        check.refuses("a wrong good in phase 1", Check.ARGUMENT,
-                () -> Scenes.atPhase(Scenes.ALLOCATED), x -> x.line(0, 16, 1, 0));
-        check.refuses("nothing wanted in phase 1", Check.ARGUMENT,
-                () -> Scenes.atPhase(Scenes.ALLOCATED), x -> x.line(0, 1, 0, 0));
-        check.refuses("wrong rules in phase 1", Check.ARGUMENT,
-                () -> Scenes.atPhase(Scenes.ALLOCATED), x -> x.line(0, 1, 1, 8));
-        check.refuses("a wrong line of a full order", Check.ARGUMENT, Scenes::eightLines, x -> x.line(0, 1, 1, 8));
-        check.refuses("a ninth line in phase 1", Check.STATE,
-                Promise03LineTest::eightLinesAllocated, x -> x.line(0, 1, 1, 0));
+        check.refuses("the 61st line", Check.NO_ROOM, Scenes::fullOfLines, x -> x.line(7, 1, 1, 0));
+        check.refuses("the 61st line beside a cancelled one", Check.NO_ROOM,
+                Scenes.then(Scenes::fullOfLines, x -> x.cancel(59)), x -> x.line(7, 1, 1, 0));
+        check.refuses("the 61st line, of an order without lines", Check.NO_ROOM,
+                Scenes.then(Scenes::fullOfLines, x -> x.order(0, 9, 1, 0)), x -> x.line(8, 1, 1, 0));
     }
 }

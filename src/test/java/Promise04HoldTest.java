@@ -3,74 +3,98 @@ public final class Promise04HoldTest {
 
     public static void main(String[] args) {
         holdsMore();
-        refusals();
-        phases();
+        linesThatThereAre();
+        pieces();
+        openOrAllocated();
+        notLive();
+        notAboveWanted();
+        notAboveWhatIsWantedThen();
+        blockedToo();
         check.end();
     }
 
-    private static OrderRows3 oneLine() {
-        OrderRows3 x = new OrderRows3();
-        x.order(0, 1, 1, 0);
-        x.line(0, 1, 10, 1);
-        return x;
+    private static OrderRows3 wantsTen() {
+        return Scenes.wants(10, 1);
     }
 
-    private static OrderRows3 cancelledBesideLive() {
-        OrderRows3 x = oneLine();
-        x.line(0, 2, 10, 1);
-        x.cancel(0);
-        return x;
+    private static OrderRows3 wantsThousand() {
+        return Scenes.wants(1000, 1);
     }
 
     private static void holdsMore() {
-        OrderRows3 x = oneLine();
+        OrderRows3 x = wantsTen();
         check.due("hold(0, 1)", 1, x.hold(0, 1));
         check.due("hold(0, 4)", 5, x.hold(0, 4));
         check.due("version", 4, x.told(0, 7));
         check.due("count(2)", 5, x.count(2));
         check.due("held", 5, Packed.held(x.packed(0)));
         check.due("all that is wanted", 10, x.hold(0, 5));
-        OrderRows3 large = new OrderRows3();
-        large.order(0, 1, 1, 0);
-        large.line(0, 1, 1000, 0);
-        check.due("hold(0, 1000)", 1000, large.hold(0, 1000));
-        check.due("a thousand held", 1000, Packed.held(large.packed(0)));
     }
 
-    private static void refusals() {
-        refuses(Check.NO_SUCH, -1, 1);
-        refuses(Check.NO_SUCH, 1, 1);
-        refuses(Check.NO_SUCH, 1, 0);
-        refuses(Check.ARGUMENT, 0, 0);
-        refuses(Check.ARGUMENT, 0, -1);
-        refuses(Check.ARGUMENT, 0, 1001);
-        refuses(Check.ARGUMENT, 0, Integer.MAX_VALUE);
-        refuses(Check.STATE, 0, 11);
-        refuses(Check.STATE, 0, 1000);
-        check.refuses("one above what is wanted", Check.STATE, () -> Scenes.atPhase(Scenes.OPEN), x -> x.hold(0, 5));
-        check.refuses("a cancelled line", Check.STATE, Promise04HoldTest::cancelledBesideLive, x -> x.hold(0, 1));
-        check.refuses("0 for a cancelled line", Check.ARGUMENT,
-                Promise04HoldTest::cancelledBesideLive, x -> x.hold(0, 0));
+    private static void linesThatThereAre() {
+        check.refusesOutside("hold of line", Check.NO_SUCH, 0, 0, Promise04HoldTest::wantsTen,
+                (x, v) -> x.hold(v, 1));
+        check.refusesOutside("hold of line, when full of lines,", Check.NO_SUCH, 0, 59, Scenes::fullOfLines,
+                (x, v) -> x.hold(v, 1));
+        check.answers("hold of the first line", 1, Scenes::fullOfLines, x -> x.hold(0, 1));
+        check.answers("hold of the last line", 60, Scenes::fullOfLines, x -> x.hold(59, 60));
     }
 
-    private static void refuses(Class<? extends RuntimeException> due, int line, int n) {
-        check.refuses("hold(" + line + ", " + n + ")", due, Promise04HoldTest::oneLine, x -> x.hold(line, n));
+    private static void pieces() {
+        check.range("pieces held", 1, 1000, Promise04HoldTest::wantsThousand, (x, v) -> x.hold(0, v),
+                x -> Packed.held(x.packed(0)));
     }
 
-    private static void phases() {
-        OrderRows3 x = Scenes.atPhase(Scenes.ALLOCATED);
-        check.due("ALLOCATED", 10, x.hold(0, 4));
-        OrderRows3 blocked = Scenes.atPhase(Scenes.OPEN);
-        blocked.block(0, 2, true);
-        check.due("blocked", 7, blocked.hold(0, 1));
+    private static void openOrAllocated() {
+        check.answers("OPEN", 10, () -> Scenes.atPhase(Scenes.OPEN), x -> x.hold(0, 4));
+        check.answers("ALLOCATED", 10, () -> Scenes.atPhase(Scenes.ALLOCATED), x -> x.hold(0, 4));
+        for (int phase = Scenes.PICKING; phase <= Scenes.CANCELLED; phase++) {
+            int at = phase;
+            check.refuses("hold in phase " + at, Check.STATE, () -> Scenes.atPhase(at), x -> x.hold(0, 1));
+        }
         OrderRows3 merged = Scenes.atPhase(Scenes.MERGED);
         check.due("a line that came to another order", 7, merged.hold(0, 1));
         check.due("the version there", 3, merged.told(1, 7));
         check.due("the merged one's version", 4, merged.told(0, 7));
-        for (int phase = Scenes.PICKING; phase <= Scenes.CANCELLED; phase++) {
+    }
+
+    private static void notLive() {
+        for (int phase = Scenes.OPEN; phase <= Scenes.ALLOCATED; phase++) {
             int at = phase;
-            check.refuses("hold in phase " + at, Check.STATE, () -> Scenes.atPhase(at), y -> y.hold(0, 1));
-            check.refuses("hold of 0 in phase " + at, Check.ARGUMENT, () -> Scenes.atPhase(at), y -> y.hold(0, 0));
+            check.refuses("a cancelled line in phase " + at, Check.STATE,
+                    () -> Scenes.cancelledBesideLive(at), x -> x.hold(0, 1));
+            check.answers("a live line beside a cancelled one in phase " + at, 10,
+                    () -> Scenes.cancelledBesideLive(at), x -> x.hold(1, 10));
         }
+    }
+
+    private static void notAboveWanted() {
+        check.answers("all of 10", 10, Promise04HoldTest::wantsTen, x -> x.hold(0, 10));
+        check.refuses("11 of 10", Check.STATE, Promise04HoldTest::wantsTen, x -> x.hold(0, 11));
+        check.refuses("1000 of 10", Check.STATE, Promise04HoldTest::wantsTen, x -> x.hold(0, 1000));
+        for (int phase = Scenes.OPEN; phase <= Scenes.ALLOCATED; phase++) {
+            int at = phase;
+            check.answers("6 and 4 of 10 in phase " + at, 10, () -> Scenes.atPhase(at), x -> x.hold(0, 4));
+            check.refuses("6 and 5 of 10 in phase " + at, Check.STATE, () -> Scenes.atPhase(at), x -> x.hold(0, 5));
+        }
+        Check.Scene allHeld = Scenes.then(Promise04HoldTest::wantsThousand, x -> x.hold(0, 1000));
+        check.refuses("1 above 1000", Check.STATE, allHeld, x -> x.hold(0, 1));
+        check.refuses("1000 above 1000", Check.STATE, allHeld, x -> x.hold(0, 1000));
+        check.refuses("2 of 1", Check.STATE, () -> Scenes.wants(1, 0), x -> x.hold(0, 2));
+        check.answers("1 of 1", 1, () -> Scenes.wants(1, 0), x -> x.hold(0, 1));
+    }
+
+    private static void notAboveWhatIsWantedThen() {
+        Check.Scene fewer = Scenes.then(Promise04HoldTest::wantsTen, x -> x.change(0, 0, 3) ? 1 : 0);
+        check.answers("3 of 3", 3, fewer, x -> x.hold(0, 3));
+        check.refuses("4 of 3", Check.STATE, fewer, x -> x.hold(0, 4));
+        Check.Scene more = Scenes.then(Promise04HoldTest::wantsTen, x -> x.change(0, 0, 11) ? 1 : 0);
+        check.answers("11 of 11", 11, more, x -> x.hold(0, 11));
+        check.refuses("12 of 11", Check.STATE, more, x -> x.hold(0, 12));
+    }
+
+    private static void blockedToo() {
+        check.answers("blocked", 7, Scenes.then(() -> Scenes.atPhase(Scenes.OPEN), x -> x.block(0, 2, true)),
+                x -> x.hold(0, 1));
     }
 }

@@ -3,8 +3,12 @@ public final class Promise05PickTest {
 
     public static void main(String[] args) {
         picksMore();
-        refusals();
-        phases();
+        linesThatThereAre();
+        pieces();
+        pickingAlone();
+        blocked();
+        notAboveHeld();
+        cancelledLine();
         check.end();
     }
 
@@ -12,21 +16,11 @@ public final class Promise05PickTest {
         return Scenes.atPhase(Scenes.PICKING);
     }
 
-    private static OrderRows3 blocked() {
-        OrderRows3 x = picking();
-        x.block(0, 7, true);
-        return x;
-    }
-
-    private static OrderRows3 cancelledBesideLive() {
-        OrderRows3 x = new OrderRows3();
-        x.order(0, 1, 1, 0);
-        x.line(0, 1, 5, 4);
-        x.line(0, 1, 5, 4);
-        x.hold(0, 5);
+    private static OrderRows3 pickingThousand() {
+        OrderRows3 x = Scenes.wants(1000, 0);
+        x.hold(0, 1000);
         x.goOn(0);
         x.goOn(0);
-        x.cancel(0);
         return x;
     }
 
@@ -41,35 +35,79 @@ public final class Promise05PickTest {
         check.due("nothing shipped yet", 0, x.count(3));
     }
 
-    private static void refusals() {
-        refuses(Check.NO_SUCH, -1, 1);
-        refuses(Check.NO_SUCH, 1, 1);
-        refuses(Check.NO_SUCH, 1, 0);
-        refuses(Check.ARGUMENT, 0, 0);
-        refuses(Check.ARGUMENT, 0, 1001);
-        refuses(Check.ARGUMENT, 0, Integer.MIN_VALUE);
-        refuses(Check.STATE, 0, 7);
-        refuses(Check.STATE, 0, 1000);
-        check.refuses("a blocked order", Check.STATE, Promise05PickTest::blocked, x -> x.pick(0, 1));
-        check.refuses("0 of a blocked order", Check.ARGUMENT, Promise05PickTest::blocked, x -> x.pick(0, 0));
-        check.refuses("a cancelled line", Check.STATE, Promise05PickTest::cancelledBesideLive, x -> x.pick(0, 1));
-        OrderRows3 x = blocked();
-        x.block(0, 7, false);
-        check.due("blocked no more", 6, x.pick(0, 6));
+    private static void linesThatThereAre() {
+        check.refusesOutside("pick of line", Check.NO_SUCH, 0, 0, Promise05PickTest::picking,
+                (x, v) -> x.pick(v, 1));
+        check.refusesOutside("pick of line, when full of lines,", Check.NO_SUCH, 0, 59,
+                Promise05PickTest::fullAndPicking, (x, v) -> x.pick(v, 1));
+        check.answers("pick of the last line", 60, Promise05PickTest::fullAndPicking, x -> x.pick(59, 60));
     }
 
-    private static void refuses(Class<? extends RuntimeException> due, int line, int n) {
-        check.refuses("pick(" + line + ", " + n + ")", due, Promise05PickTest::picking, x -> x.pick(line, n));
+    /** Order 19 is PICKING, and of its lines the last one holds all of 60. */
+    private static OrderRows3 fullAndPicking() {
+        OrderRows3 x = Scenes.full();
+        x.hold(59, 60);
+        x.goOn(19);
+        x.goOn(19);
+        return x;
     }
 
-    private static void phases() {
+    private static void pieces() {
+        check.range("pieces picked", 1, 1000, Promise05PickTest::pickingThousand, (x, v) -> x.pick(0, v),
+                x -> Packed.picked(x.packed(0)));
+    }
+
+    private static void pickingAlone() {
         for (int phase = Scenes.OPEN; phase <= Scenes.MERGED; phase++) {
             int at = phase;
             if (at != Scenes.PICKING) {
                 check.refuses("pick in phase " + at, Check.STATE, () -> Scenes.atPhase(at), x -> x.pick(0, 1));
-                check.refuses("pick of 0 in phase " + at, Check.ARGUMENT,
-                        () -> Scenes.atPhase(at), x -> x.pick(0, 0));
             }
         }
+    }
+
+    private static void blocked() {
+        for (int person = 0; person < 8; person++) {
+            int who = person;
+            check.refuses("blocked by " + who, Check.STATE,
+                    Scenes.then(Promise05PickTest::picking, x -> x.block(0, who, true)), x -> x.pick(0, 1));
+        }
+        Check.Scene byTwo = Scenes.then(Promise05PickTest::picking, x -> x.block(0, 0, true) + x.block(0, 7, true));
+        Check.Scene byOne = Scenes.then(byTwo, x -> x.block(0, 0, false));
+        check.refuses("blocked by one still", Check.STATE, byOne, x -> x.pick(0, 1));
+        check.answers("blocked no more", 6, Scenes.then(byOne, x -> x.block(0, 7, false)), x -> x.pick(0, 6));
+    }
+
+    private static void notAboveHeld() {
+        check.answers("all of 6", 6, Promise05PickTest::picking, x -> x.pick(0, 6));
+        check.refuses("7 of 6, where 10 are wanted", Check.STATE, Promise05PickTest::picking, x -> x.pick(0, 7));
+        check.refuses("1000 of 6", Check.STATE, Promise05PickTest::picking, x -> x.pick(0, 1000));
+        Check.Scene some = Scenes.then(Promise05PickTest::picking, x -> x.pick(0, 5));
+        check.answers("5 and 1 of 6", 6, some, x -> x.pick(0, 1));
+        check.refuses("5 and 2 of 6", Check.STATE, some, x -> x.pick(0, 2));
+        Check.Scene all = Scenes.then(Promise05PickTest::pickingThousand, x -> x.pick(0, 1000));
+        check.refuses("1 above 1000", Check.STATE, all, x -> x.pick(0, 1));
+        check.refuses("1000 above 1000", Check.STATE, all, x -> x.pick(0, 1000));
+        check.refuses("1 where nothing is held", Check.STATE,
+                () -> Scenes.cancelledBesideLive(Scenes.PICKING), x -> x.pick(1, 1));
+    }
+
+    private static void cancelledLine() {
+        check.refuses("a line cancelled before", Check.STATE,
+                () -> Scenes.cancelledBesideLive(Scenes.PICKING), x -> x.pick(0, 1));
+        OrderRows3 x = picking();
+        check.due("a live line", 1, x.pick(0, 1));
+        check.refuses("a line cancelled while picked", Check.STATE, Promise05PickTest::cancelledWhilePicked,
+                y -> y.pick(0, 1));
+    }
+
+    private static OrderRows3 cancelledWhilePicked() {
+        OrderRows3 x = Scenes.atPhase(Scenes.OPEN, 7);
+        x.line(0, 1, 5, 4);
+        x.goOn(0);
+        x.goOn(0);
+        x.pick(0, 2);
+        x.cancel(0);
+        return x;
     }
 }

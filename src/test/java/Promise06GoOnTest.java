@@ -3,13 +3,18 @@ public final class Promise06GoOnTest {
 
     public static void main(String[] args) {
         wholeWay();
-        fromOpen();
-        fromOpenWithCancelledLine();
+        ordersThatThereAre();
+        fromOpenWithoutLine();
+        fromOpenByRules();
+        fromOpenWithTwoLines();
+        fromOpenAtTheLeastAndGreatest();
+        fromAllocatedAlways();
         fromPicking();
         fromPacked();
         fromGone();
+        fromGoneByRules();
         blocked();
-        refusals();
+        closedCancelledMerged();
         check.end();
     }
 
@@ -37,8 +42,28 @@ public final class Promise06GoOnTest {
         return x;
     }
 
-    private static void fromOpen() {
+    private static void ordersThatThereAre() {
+        check.refusesOutside("goOn of order", Check.NO_SUCH, 0, 0, Promise06GoOnTest::withoutLine,
+                (x, v) -> x.goOn(v));
+        check.refusesOutside("goOn of order, when full,", Check.NO_SUCH, 0, 19, Scenes::full, (x, v) -> x.goOn(v));
+        check.answers("goOn of the first order", 1, Scenes::full, x -> x.goOn(0));
+        check.answers("goOn of the last order", 1, Scenes::full, x -> x.goOn(19));
+    }
+
+    private static void fromOpenWithoutLine() {
         check.keeps("without a line", -1, Promise06GoOnTest::withoutLine, x -> x.goOn(0));
+        check.keeps("an order that an order without lines was joined to", -1,
+                Promise06GoOnTest::joinedWithoutLines, x -> x.goOn(0));
+    }
+
+    private static OrderRows3 joinedWithoutLines() {
+        OrderRows3 x = withoutLine();
+        x.order(0, 2, 1, 0);
+        x.join(0, 1);
+        return x;
+    }
+
+    private static void fromOpenByRules() {
         for (int rules = 0; rules < 8; rules++) {
             boolean partial = (rules & 1) != 0;
             boolean backorder = (rules & 4) != 0;
@@ -47,8 +72,6 @@ public final class Promise06GoOnTest {
             opens(rules, 9, partial || backorder);
             opens(rules, 10, true);
         }
-        check.keeps("one line of two ready", -1, () -> secondLine(0), x -> x.goOn(0));
-        check.due("both lines ready", 1, secondLine(4).goOn(0));
     }
 
     private static OrderRows3 withoutLine() {
@@ -72,10 +95,43 @@ public final class Promise06GoOnTest {
         return x;
     }
 
-    private static void fromOpenWithCancelledLine() {
-        OrderRows3 x = secondLine(0);
-        x.cancel(1);
-        check.due("a cancelled line beside a ready one", 1, x.goOn(0));
+    private static void fromOpenWithTwoLines() {
+        check.keeps("one line of two ready", -1, () -> secondLine(0), x -> x.goOn(0));
+        check.keeps("two pieces of three", -1, Scenes.then(() -> secondLine(0), x -> x.hold(1, 2)), x -> x.goOn(0));
+        check.answers("both held", 1, Scenes.then(() -> secondLine(0), x -> x.hold(1, 3)), x -> x.goOn(0));
+        check.answers("both lines ready", 1, () -> secondLine(4), x -> x.goOn(0));
+        check.answers("a cancelled line beside a ready one", 1,
+                Scenes.then(() -> secondLine(0), x -> x.cancel(1)), x -> x.goOn(0));
+        check.keeps("a cancelled line beside one that is not ready", -1,
+                Scenes.then(() -> secondLine(0), x -> x.cancel(0)), x -> x.goOn(0));
+    }
+
+    private static void fromOpenAtTheLeastAndGreatest() {
+        check.keeps("0 of 1", -1, () -> open(1, 1, 0), x -> x.goOn(0));
+        check.answers("1 of 1", 1, () -> open(0, 1, 1), x -> x.goOn(0));
+        check.keeps("999 of 1000", -1, () -> open(2, 1000, 999), x -> x.goOn(0));
+        check.answers("1000 of 1000", 1, () -> open(2, 1000, 1000), x -> x.goOn(0));
+        check.answers("1 of 1000, PARTIAL", 1, () -> open(1, 1000, 1), x -> x.goOn(0));
+        check.keeps("the last of eight lines not ready", -1, () -> eightLines(7), x -> x.goOn(0));
+        check.answers("all of eight lines ready", 1, () -> eightLines(8), x -> x.goOn(0));
+    }
+
+    private static OrderRows3 eightLines(int ready) {
+        OrderRows3 x = Scenes.eightLines();
+        for (int line = 0; line < ready; line++) {
+            x.hold(line, 5);
+        }
+        return x;
+    }
+
+    /** The rules that let it come so far may be taken away then. */
+    private static void fromAllocatedAlways() {
+        for (int rules = 0; rules < 8; rules++) {
+            OrderRows3 x = open(4, 10, 0);
+            x.goOn(0);
+            x.change(0, 2, rules);
+            check.due("nothing held, rules " + rules, 2, x.goOn(0));
+        }
     }
 
     private static OrderRows3 pickingTwoLines() {
@@ -117,6 +173,44 @@ public final class Promise06GoOnTest {
         check.due("count(3)", 6, x.count(3));
     }
 
+    /** BACKORDER counts when it is to be CLOSED, though the rules came when it was ALLOCATED. */
+    private static void fromGoneByRules() {
+        for (int rules = 0; rules < 8; rules++) {
+            boolean backorder = (rules & 4) != 0;
+            int late = rules;
+            Check.Scene gone = () -> goneWithRulesChanged(late);
+            if (backorder) {
+                check.keeps("short with rules " + late, -1, gone, x -> x.goOn(0));
+                check.answers("backordered with rules " + late, 5, Scenes.then(gone, x -> x.backorder(0)),
+                        x -> x.goOn(0));
+            } else {
+                check.answers("short with rules " + late, 5, gone, x -> x.goOn(0));
+            }
+        }
+        check.keeps("one piece short of 1000", -1, () -> goneShort(1000, 999), x -> x.goOn(0));
+        check.answers("none short of 1000", 5, () -> goneShort(1000, 1000), x -> x.goOn(0));
+    }
+
+    private static OrderRows3 goneWithRulesChanged(int rules) {
+        OrderRows3 x = open(4, 10, 0);
+        x.goOn(0);
+        x.change(0, 2, rules);
+        x.goOn(0);
+        x.goOn(0);
+        x.goOn(0);
+        return x;
+    }
+
+    private static OrderRows3 goneShort(int wanted, int held) {
+        OrderRows3 x = open(4, wanted, held);
+        x.goOn(0);
+        x.goOn(0);
+        x.pick(0, held);
+        x.goOn(0);
+        x.goOn(0);
+        return x;
+    }
+
     private static OrderRows3 gone(int rules) {
         return Scenes.atPhase(Scenes.GONE, rules);
     }
@@ -127,22 +221,12 @@ public final class Promise06GoOnTest {
         OrderRows3 x = gone(5);
         x.backorder(0);
         check.due("backordered", 5, x.goOn(0));
-        check.due("for BACKORDER, not short", 5, nothingShort().goOn(0));
+        check.due("for BACKORDER, not short", 5, goneShort(2, 2).goOn(0));
         check.keeps("one of two backordered", -1, Promise06GoOnTest::oneOfTwoBackordered, y -> y.goOn(0));
         OrderRows3 both = oneOfTwoBackordered();
         both.backorder(1);
         check.due("both backordered", 5, both.goOn(0));
         check.due("a cancelled line for BACKORDER", 5, goneWithCancelledLine().goOn(0));
-    }
-
-    private static OrderRows3 nothingShort() {
-        OrderRows3 x = open(4, 2, 2);
-        x.goOn(0);
-        x.goOn(0);
-        x.pick(0, 2);
-        x.goOn(0);
-        x.goOn(0);
-        return x;
     }
 
     private static OrderRows3 oneOfTwoBackordered() {
@@ -183,6 +267,8 @@ public final class Promise06GoOnTest {
             OrderRows3 x = blockedAt(at);
             x.block(0, 0, false);
             check.due("blocked no more in phase " + at, at + 1, x.goOn(0));
+            check.keeps("blocked by one of two still in phase " + at, -1,
+                    Scenes.then(() -> blockedAt(at), y -> y.block(0, 7, true) + y.block(0, 0, false)), y -> y.goOn(0));
         }
     }
 
@@ -192,13 +278,12 @@ public final class Promise06GoOnTest {
         return x;
     }
 
-    private static void refusals() {
-        check.refuses("goOn(-1)", Check.NO_SUCH, Promise06GoOnTest::withoutLine, x -> x.goOn(-1));
-        check.refuses("goOn(1)", Check.NO_SUCH, Promise06GoOnTest::withoutLine, x -> x.goOn(1));
+    private static void closedCancelledMerged() {
         for (int phase = Scenes.CLOSED; phase <= Scenes.MERGED; phase++) {
             int at = phase;
             check.refuses("goOn in phase " + at, Check.STATE, () -> Scenes.atPhase(at), x -> x.goOn(0));
         }
+        check.refuses("CLOSED and backordered", Check.STATE, Scenes::closedAndBackordered, x -> x.goOn(0));
         check.refuses("CANCELLED and blocked", Check.STATE, Promise06GoOnTest::cancelledAndBlocked, x -> x.goOn(0));
     }
 }

@@ -3,8 +3,10 @@ public final class Promise08MoveTest {
 
     public static void main(String[] args) {
         moves();
-        tooLate();
-        refusals();
+        blockedToo();
+        ordersThatThereAre();
+        days();
+        goneOrFurther();
         check.end();
     }
 
@@ -20,33 +22,42 @@ public final class Promise08MoveTest {
             check.due("the day then", 0, x.told(0, 4));
             check.due("day 10000 in phase " + phase, 1, ask(x, 0, 10000));
             check.due("the last day then", 10000, x.told(0, 4));
-            check.due("version", version + 2, x.told(0, 7));
+            check.due("the same day again", 1, ask(x, 0, 10000));
+            check.due("version", version + 3, x.told(0, 7));
             check.due("phase as before", phase, x.told(0, 0));
         }
-        OrderRows3 blocked = Scenes.atPhase(Scenes.OPEN);
-        blocked.block(0, 1, true);
-        check.due("a blocked order", 1, ask(blocked, 0, 3));
     }
 
-    private static void tooLate() {
+    private static void blockedToo() {
+        check.answers("a blocked order", 1,
+                Scenes.then(() -> Scenes.atPhase(Scenes.OPEN), x -> x.block(0, 1, true)), x -> ask(x, 0, 3));
+    }
+
+    private static void ordersThatThereAre() {
+        check.refusesOutside("move of order", Check.NO_SUCH, 0, 0, () -> Scenes.atPhase(Scenes.OPEN),
+                (x, v) -> ask(x, v, 5));
+        check.refusesOutside("move of order, when full of orders,", Check.NO_SUCH, 0, 19, Scenes::fullOfOrders,
+                (x, v) -> ask(x, v, 5));
+        OrderRows3 x = Scenes.fullOfOrders();
+        check.due("the last of 20 orders", 1, ask(x, 19, 9999));
+        check.due("the day there", 9999, x.told(19, 4));
+        check.due("the day of the order before", 18, x.told(18, 4));
+    }
+
+    private static void days() {
+        for (int phase = Scenes.OPEN; phase <= Scenes.PACKED; phase++) {
+            int at = phase;
+            check.range("day in phase " + at, 0, 10000, () -> Scenes.atPhase(at), (x, v) -> ask(x, 0, v),
+                    x -> x.told(0, 4));
+        }
+    }
+
+    private static void goneOrFurther() {
+        check.answers("move when PACKED", 1, () -> Scenes.atPhase(Scenes.PACKED), x -> ask(x, 0, 5));
         for (int phase = Scenes.GONE; phase <= Scenes.MERGED; phase++) {
             int at = phase;
             check.keeps("move in phase " + at, 0, () -> Scenes.atPhase(at), x -> ask(x, 0, 5));
-            check.refuses("a wrong day in phase " + at, Check.ARGUMENT,
-                    () -> Scenes.atPhase(at), x -> ask(x, 0, 10001));
+            check.keeps("move to its own day in phase " + at, 0, () -> Scenes.atPhase(at), x -> ask(x, 0, 70));
         }
-    }
-
-    private static void refusals() {
-        refuses(Check.NO_SUCH, -1, 5);
-        refuses(Check.NO_SUCH, 1, 5);
-        refuses(Check.NO_SUCH, 1, -1);
-        refuses(Check.ARGUMENT, 0, -1);
-        refuses(Check.ARGUMENT, 0, 10001);
-    }
-
-    private static void refuses(Class<? extends RuntimeException> due, int order, int day) {
-        check.refuses("move(" + order + ", " + day + ")", due,
-                () -> Scenes.atPhase(Scenes.OPEN), x -> ask(x, order, day));
     }
 }

@@ -5,14 +5,13 @@ public final class Promise10JoinTest {
         joins();
         joinsAgain();
         withoutLines();
-        refusals();
+        ordersThatThereAre();
+        theSame();
+        notBothOpen();
+        differentCustomers();
+        somebodyBlocks();
         room();
         check.end();
-    }
-
-    private static long ask(OrderRows3 x, int order, int other) {
-        x.join(order, other);
-        return 0;
     }
 
     /** Orders 0, 1 and 2 of customer 1 with the lines 0 and 3, 1 and 4, 2 and 5; order 3 of customer 2. */
@@ -81,84 +80,122 @@ public final class Promise10JoinTest {
         check.due("no line", 0, x.told(1, 6));
     }
 
-    private static OrderRows3 allocated(int order) {
-        OrderRows3 x = fourOrders();
-        x.goOn(order);
+    private static void ordersThatThereAre() {
+        check.refusesOutside("join to order", Check.NO_SUCH, 0, 3, Promise10JoinTest::fourOrders,
+                (x, v) -> Scenes.join(x, v, 0));
+        check.refusesOutside("join of order", Check.NO_SUCH, 0, 3, Promise10JoinTest::fourOrders,
+                (x, v) -> Scenes.join(x, 0, v));
+        check.refusesOutside("join with itself of order", Check.NO_SUCH, 0, 3, Promise10JoinTest::fourOrders,
+                (x, v) -> Scenes.join(x, v, v));
+        check.refusesOutside("join of order, when full,", Check.NO_SUCH, 0, 19, Scenes::full,
+                (x, v) -> Scenes.join(x, 0, v));
+        OrderRows3 x = Scenes.full();
+        x.join(19, 3);
+        linesOf(x, 19, 19, 39, 59, 3, 23, 43);
+        linesOf(x, 3);
+        check.due("the last order took it", 19, x.told(3, 8));
+    }
+
+    private static void theSame() {
+        for (int order = 0; order < 4; order++) {
+            refuses("the same, " + order, Check.STATE, Promise10JoinTest::fourOrders, order, order);
+        }
+        refuses("the same without lines", Check.STATE, () -> Scenes.orders(1), 0, 0);
+    }
+
+    /** Order 0 in a phase, order 1 of the same customer OPEN, order 2 too. */
+    private static OrderRows3 besideOpen(int phase) {
+        OrderRows3 x = Scenes.atPhase(phase);
+        while (x.count(0) < 3) {
+            x.order(3, 60 + x.count(0), 4, 70);
+        }
         return x;
     }
 
-    private static OrderRows3 blocked(int order) {
+    private static void notBothOpen() {
+        for (int phase = Scenes.ALLOCATED; phase <= Scenes.MERGED; phase++) {
+            int at = phase;
+            refuses("this one in phase " + at, Check.STATE, () -> besideOpen(at), 0, 2);
+            refuses("the other in phase " + at, Check.STATE, () -> besideOpen(at), 2, 0);
+        }
+        check.answers("both OPEN", 0, () -> besideOpen(Scenes.OPEN), x -> Scenes.join(x, 2, 0));
+        refuses("both ALLOCATED", Check.STATE, Promise10JoinTest::bothAllocated, 0, 1);
+    }
+
+    private static OrderRows3 bothAllocated() {
         OrderRows3 x = fourOrders();
-        x.block(order, 5, true);
+        x.goOn(0);
+        x.goOn(1);
         return x;
     }
 
-    private static OrderRows3 merged() {
-        OrderRows3 x = fourOrders();
-        x.join(0, 1);
+    private static void differentCustomers() {
+        refuses("customers 1 and 2", Check.STATE, Promise10JoinTest::fourOrders, 0, 3);
+        refuses("customers 2 and 1", Check.STATE, Promise10JoinTest::fourOrders, 3, 0);
+        refuses("customers 0 and 7", Check.STATE, Promise10JoinTest::firstAndLastCustomer, 0, 1);
+    }
+
+    private static OrderRows3 firstAndLastCustomer() {
+        OrderRows3 x = new OrderRows3();
+        x.order(0, 5, 1, 0);
+        x.order(7, 5, 1, 0);
         return x;
     }
 
-    private static OrderRows3 cancelled() {
+    private static OrderRows3 blocked(int order, int person) {
         OrderRows3 x = fourOrders();
-        x.cancel(1);
-        x.cancel(4);
+        x.block(order, person, true);
         return x;
     }
 
-    private static void refusals() {
-        refuses("join(-1, 0)", Check.NO_SUCH, Promise10JoinTest::fourOrders, -1, 0);
-        refuses("join(0, -1)", Check.NO_SUCH, Promise10JoinTest::fourOrders, 0, -1);
-        refuses("join(0, 4)", Check.NO_SUCH, Promise10JoinTest::fourOrders, 0, 4);
-        refuses("join(4, 0)", Check.NO_SUCH, Promise10JoinTest::fourOrders, 4, 0);
-        refuses("join(4, 4)", Check.NO_SUCH, Promise10JoinTest::fourOrders, 4, 4);
-        refuses("the same", Check.STATE, Promise10JoinTest::fourOrders, 0, 0);
-        refuses("different customers", Check.STATE, Promise10JoinTest::fourOrders, 0, 3);
-        refuses("this one ALLOCATED", Check.STATE, () -> allocated(0), 0, 1);
-        refuses("the other ALLOCATED", Check.STATE, () -> allocated(1), 0, 1);
-        refuses("this one blocked", Check.STATE, () -> blocked(0), 0, 1);
-        refuses("the other blocked", Check.STATE, () -> blocked(1), 0, 1);
-        refuses("this one MERGED", Check.STATE, Promise10JoinTest::merged, 1, 2);
-        refuses("the other MERGED", Check.STATE, Promise10JoinTest::merged, 2, 1);
-        refuses("the other CANCELLED", Check.STATE, Promise10JoinTest::cancelled, 0, 1);
-        OrderRows3 x = blocked(2);
-        x.join(0, 1);
-        check.due("a third one's block does not matter", Scenes.MERGED, x.told(1, 0));
+    private static void somebodyBlocks() {
+        for (int person = 0; person < 8; person += 7) {
+            int who = person;
+            refuses("this one blocked by " + who, Check.STATE, () -> blocked(0, who), 0, 1);
+            refuses("the other blocked by " + who, Check.STATE, () -> blocked(1, who), 0, 1);
+            check.answers("a third one blocked by " + who, 0, () -> blocked(2, who), x -> Scenes.join(x, 0, 1));
+            check.answers("blocked no more by " + who, 0,
+                    Scenes.then(() -> blocked(0, who), x -> x.block(0, who, false)), x -> Scenes.join(x, 0, 1));
+        }
     }
 
     private static void refuses(String what, Class<? extends RuntimeException> due, Check.Scene scene,
             int order, int other) {
-        check.refuses(what, due, scene, x -> ask(x, order, other));
+        check.refuses(what, due, scene, x -> Scenes.join(x, order, other));
     }
 
-    /** Order 0 with as many lines, the first one cancelled, and order 1 of the same customer with as many. */
+    /** Orders 0 and 1 of one customer with as many lines each. */
     private static OrderRows3 linesOfTwo(int ofThis, int ofOther) {
-        OrderRows3 x = new OrderRows3();
-        x.order(1, 5, 3, 30);
-        x.order(1, 6, 3, 30);
-        for (int k = 0; k < ofThis; k++) {
-            x.line(0, k, 5, 0);
-        }
+        OrderRows3 x = Scenes.linesOfOne(ofThis);
+        x.order(0, 2, 3, 30);
         for (int k = 0; k < ofOther; k++) {
             x.line(1, k, 5, 0);
         }
-        x.cancel(0);
-        return x;
-    }
-
-    private static OrderRows3 nineAndBlocked() {
-        OrderRows3 x = linesOfTwo(5, 4);
-        x.block(1, 0, true);
         return x;
     }
 
     private static void room() {
-        OrderRows3 x = linesOfTwo(5, 3);
-        x.join(0, 1);
-        linesOf(x, 0, 0, 1, 2, 3, 4, 5, 6, 7);
-        refuses("nine lines, a cancelled one counted", Check.NO_ROOM, () -> linesOfTwo(5, 4), 0, 1);
-        refuses("sixteen lines", Check.NO_ROOM, () -> linesOfTwo(8, 8), 0, 1);
-        refuses("nine lines and blocked", Check.STATE, Promise10JoinTest::nineAndBlocked, 0, 1);
-        refuses("eight lines with themselves", Check.STATE, Scenes::eightLines, 0, 0);
+        int[][] enough = {{0, 8}, {8, 0}, {1, 7}, {7, 1}, {4, 4}, {5, 3}};
+        for (int[] lines : enough) {
+            OrderRows3 x = linesOfTwo(lines[0], lines[1]);
+            x.join(0, 1);
+            linesOf(x, 0, 0, 1, 2, 3, 4, 5, 6, 7);
+            linesOf(x, 1);
+        }
+        int[][] tooMany = {{1, 8}, {8, 1}, {5, 4}, {8, 8}};
+        for (int[] lines : tooMany) {
+            refuses(lines[0] + " and " + lines[1] + " lines", Check.NO_ROOM,
+                    () -> linesOfTwo(lines[0], lines[1]), 0, 1);
+        }
+        refuses("nine lines, one of this order's cancelled", Check.NO_ROOM,
+                Scenes.then(() -> linesOfTwo(5, 4), x -> x.cancel(0)), 0, 1);
+        refuses("nine lines, one of the other's cancelled", Check.NO_ROOM,
+                Scenes.then(() -> linesOfTwo(5, 4), x -> x.cancel(8)), 0, 1);
+        check.refuses("a ninth line after a join", Check.NO_ROOM,
+                Scenes.then(() -> linesOfTwo(4, 4), x -> Scenes.join(x, 0, 1)), x -> x.line(0, 1, 1, 0));
+        check.answers("an eighth line after a join", 7,
+                Scenes.then(() -> linesOfTwo(3, 4), x -> Scenes.join(x, 0, 1)), x -> x.line(0, 1, 1, 0));
+        check.answers("a join when no line has room any more", 0,
+                Scenes::full, x -> Scenes.join(x, 0, 4));
     }
 }

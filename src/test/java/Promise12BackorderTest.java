@@ -5,8 +5,14 @@ public final class Promise12BackorderTest {
         backorders();
         withoutGoodInstead();
         backorderOfBackorder();
-        refusals();
-        room();
+        leastAndGreatestShort();
+        linesThatThereAre();
+        goneAlone();
+        notLiveNotForItNotShort();
+        once();
+        roomForAnOrder();
+        roomForALine();
+        fromAnOrderOfEightLines();
         check.end();
     }
 
@@ -68,10 +74,31 @@ public final class Promise12BackorderTest {
         return x;
     }
 
-    private static OrderRows3 closedWithShort() {
-        OrderRows3 x = backordered();
+    private static OrderRows3 goneShort(int wanted, int held) {
+        OrderRows3 x = Scenes.wants(wanted, 4);
+        if (held > 0) {
+            x.hold(0, held);
+        }
+        x.goOn(0);
+        x.goOn(0);
+        if (held > 0) {
+            x.pick(0, held);
+        }
+        x.goOn(0);
         x.goOn(0);
         return x;
+    }
+
+    private static void leastAndGreatestShort() {
+        int[][] wantedAndHeld = {{1, 0}, {1000, 0}, {1000, 1}, {1000, 999}};
+        for (int[] row : wantedAndHeld) {
+            OrderRows3 x = goneShort(row[0], row[1]);
+            check.due("short", row[0] - row[1], x.told(0, 9));
+            check.due("backorder of " + row[0] + " with " + row[1], 1, x.backorder(0));
+            check.due("wanted there", row[0] - row[1], Packed.wanted(x.packed(1)));
+        }
+        check.refuses("1 of 1 shipped", Check.STATE, () -> goneShort(1, 1), x -> x.backorder(0));
+        check.refuses("1000 of 1000 shipped", Check.STATE, () -> goneShort(1000, 1000), x -> x.backorder(0));
     }
 
     /** Line 0 is cancelled, line 1 not short, line 2 short but not for BACKORDER. */
@@ -93,39 +120,78 @@ public final class Promise12BackorderTest {
         return x;
     }
 
-    private static void refusals() {
-        check.refuses("backorder(-1)", Check.NO_SUCH, Promise12BackorderTest::gone, x -> x.backorder(-1));
-        check.refuses("backorder(1)", Check.NO_SUCH, Promise12BackorderTest::gone, x -> x.backorder(1));
-        for (int phase = Scenes.OPEN; phase <= Scenes.PACKED; phase++) {
+    private static void linesThatThereAre() {
+        check.refusesOutside("backorder of line", Check.NO_SUCH, 0, 0, Promise12BackorderTest::gone,
+                (x, v) -> x.backorder(v));
+        check.refusesOutside("backorder of line, when full of lines,", Check.NO_SUCH, 0, 59, Scenes::fullOfLines,
+                (x, v) -> x.backorder(v));
+    }
+
+    private static void goneAlone() {
+        for (int phase = Scenes.OPEN; phase <= Scenes.MERGED; phase++) {
             int at = phase;
-            check.refuses("backorder in phase " + at, Check.STATE,
-                    () -> Scenes.atPhase(at, 7), x -> x.backorder(0));
+            if (at != Scenes.GONE && at != Scenes.CLOSED) {
+                check.refuses("backorder in phase " + at, Check.STATE,
+                        () -> Scenes.atPhase(at, 7), x -> x.backorder(0));
+            }
         }
-        check.refuses("CANCELLED", Check.STATE, () -> Scenes.atPhase(Scenes.CANCELLED, 7), x -> x.backorder(0));
-        check.refuses("CLOSED", Check.STATE, Promise12BackorderTest::closedWithShort, x -> x.backorder(0));
-        check.refuses("once more", Check.STATE, Promise12BackorderTest::backordered, x -> x.backorder(0));
+        check.refuses("CLOSED and short, not for BACKORDER", Check.STATE,
+                () -> Scenes.atPhase(Scenes.CLOSED, 3), x -> x.backorder(0));
+        check.refuses("CLOSED and backordered", Check.STATE, Scenes::closedAndBackordered, x -> x.backorder(0));
+        check.refuses("the OPEN backorder itself", Check.STATE, Promise12BackorderTest::backordered,
+                x -> x.backorder(1));
+    }
+
+    private static void notLiveNotForItNotShort() {
+        String[] why = {"not live", "not short", "not for BACKORDER"};
         for (int line = 0; line < 3; line++) {
             int at = line;
-            check.refuses("line " + at, Check.STATE, Promise12BackorderTest::nothingToBackorder,
-                    x -> x.backorder(at));
+            check.refuses(why[line], Check.STATE, Promise12BackorderTest::nothingToBackorder, x -> x.backorder(at));
+        }
+        for (int rules = 0; rules < 4; rules++) {
+            int bits = rules;
+            check.refuses("rules " + bits, Check.STATE, () -> goneWithRules(bits), x -> x.backorder(0));
+            check.answers("rules " + (bits + 4), 1, () -> goneWithRules(bits + 4), x -> x.backorder(0));
         }
     }
 
-    private static OrderRows3 fullOfOrders(boolean backordered) {
+    private static OrderRows3 goneWithRules(int rules) {
+        OrderRows3 x = Scenes.wants(10, 4);
+        x.goOn(0);
+        x.change(0, 2, rules);
+        x.goOn(0);
+        x.goOn(0);
+        x.goOn(0);
+        return x;
+    }
+
+    private static void once() {
+        check.refuses("once more", Check.STATE, Promise12BackorderTest::backordered, x -> x.backorder(0));
+        Check.Scene backorderCancelled = Scenes.then(Promise12BackorderTest::backordered, x -> x.cancel(1));
+        check.refuses("once more, when the backorder is CANCELLED", Check.STATE, backorderCancelled,
+                x -> x.backorder(0));
+    }
+
+    /** Order 0 is GONE and short; with the others there are so many. */
+    private static OrderRows3 ordersBeside(int count) {
         OrderRows3 x = gone();
-        if (backordered) {
-            x.backorder(0);
-        }
-        int orders = x.count(0);
-        for (int k = orders; k < 20; k++) {
+        for (int k = 1; k < count; k++) {
             x.order(k % 3, k, 1, k);
         }
         return x;
     }
 
-    private static OrderRows3 fullOfLines(int lines) {
+    private static void roomForAnOrder() {
+        OrderRows3 x = ordersBeside(19);
+        check.due("room for the last order", 1, x.backorder(0));
+        check.due("the last order", 19, Packed.order(x.packed(1)));
+        check.refuses("no room for an order", Check.NO_ROOM, () -> ordersBeside(20), y -> y.backorder(0));
+    }
+
+    /** Order 0 is GONE and short; with the lines of the others there are so many. */
+    private static OrderRows3 linesBeside(int count) {
         OrderRows3 x = gone();
-        for (int k = 1; k < lines; k++) {
+        for (int k = 1; k < count; k++) {
             if (k % 8 == 1) {
                 x.order(0, k, 1, 0);
             }
@@ -134,21 +200,25 @@ public final class Promise12BackorderTest {
         return x;
     }
 
-    private static OrderRows3 nineteenOrders() {
-        OrderRows3 x = gone();
-        for (int k = 1; k < 19; k++) {
-            x.order(k % 3, k, 1, k);
-        }
-        return x;
+    private static void roomForALine() {
+        check.answers("room for the last line", 59, () -> linesBeside(59), x -> x.backorder(0));
+        check.refuses("no room for a line", Check.NO_ROOM, () -> linesBeside(60), x -> x.backorder(0));
     }
 
-    private static void room() {
-        check.refuses("no room for an order", Check.NO_ROOM, () -> fullOfOrders(false), x -> x.backorder(0));
-        check.refuses("no room, and backordered before", Check.STATE, () -> fullOfOrders(true), x -> x.backorder(0));
-        check.refuses("no room for a line", Check.NO_ROOM, () -> fullOfLines(60), x -> x.backorder(0));
-        check.due("room for the last line", 59, fullOfLines(59).backorder(0));
-        OrderRows3 x = nineteenOrders();
-        check.due("room for the last order", 1, x.backorder(0));
-        check.due("the last order", 19, Packed.order(x.packed(1)));
+    private static void fromAnOrderOfEightLines() {
+        OrderRows3 x = new OrderRows3();
+        x.order(0, 1, 1, 0);
+        for (int k = 0; k < 8; k++) {
+            x.line(0, k, 5, 4);
+        }
+        for (int k = 0; k < 4; k++) {
+            x.goOn(0);
+        }
+        for (int line = 0; line < 8; line++) {
+            check.due("backorder of line " + line, 8 + line, x.backorder(line));
+            check.due("an order of its own", 1 + line, Packed.order(x.packed(8 + line)));
+        }
+        check.due("eight lines still", 8, x.told(0, 6));
+        check.due("to CLOSED", 5, x.goOn(0));
     }
 }

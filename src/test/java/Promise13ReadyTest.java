@@ -4,9 +4,13 @@ public final class Promise13ReadyTest {
     public static void main(String[] args) {
         priority();
         rankBeforeDay();
+        dayBeforeNumber();
+        numberAtLast();
         phases();
+        blocked();
         many();
-        refusals();
+        notSoMany();
+        belowZero();
         check.end();
     }
 
@@ -49,6 +53,41 @@ public final class Promise13ReadyTest {
         waiting("rank before day", x, 1, 0);
     }
 
+    private static void dayBeforeNumber() {
+        OrderRows3 x = new OrderRows3();
+        x.order(0, 1, 9, 10000);
+        x.order(0, 2, 9, 9999);
+        x.order(0, 3, 9, 0);
+        x.order(0, 4, 9, 1);
+        waiting("day before number", x, 2, 3, 1, 0);
+    }
+
+    /** Neither the customer nor the own number nor what the order wants counts. */
+    private static void numberAtLast() {
+        OrderRows3 x = new OrderRows3();
+        x.order(7, 99999, 5, 50);
+        x.order(0, 1, 5, 50);
+        x.order(3, 500, 5, 50);
+        x.line(2, 1, 1, 4);
+        x.goOn(2);
+        waiting("number at last", x, 0, 1, 2);
+    }
+
+    private static void blocked() {
+        for (int person = 0; person < 8; person++) {
+            OrderRows3 x = fiveOrders();
+            x.block(3, person, true);
+            waiting("blocked by " + person, x, 2, 0, 1, 4);
+        }
+        OrderRows3 all = Scenes.fullOfOrders();
+        for (int order = 0; order < 20; order++) {
+            all.block(order, 7, true);
+        }
+        waiting("all blocked", all);
+        all.block(19, 7, false);
+        waiting("all blocked but the last", all, 19);
+    }
+
     private static void phases() {
         for (int phase = Scenes.OPEN; phase <= Scenes.CANCELLED; phase++) {
             OrderRows3 x = Scenes.atPhase(phase);
@@ -69,11 +108,20 @@ public final class Promise13ReadyTest {
         waiting("twenty orders", x, 8, 17, 7, 16, 6, 15, 5, 14, 4, 13, 3, 12, 2, 11, 1, 10, 19, 0, 9, 18);
     }
 
-    private static void refusals() {
-        check.refuses("ready(-1)", Check.ARGUMENT, Promise13ReadyTest::fiveOrders, x -> x.ready(-1));
-        check.refuses("ready of the least int", Check.ARGUMENT,
-                Promise13ReadyTest::fiveOrders, x -> x.ready(Integer.MIN_VALUE));
-        check.refuses("ready(-1) without orders", Check.ARGUMENT, OrderRows3::new, x -> x.ready(-1));
-        check.keeps("ready(2)", 0, Promise13ReadyTest::fiveOrders, x -> x.ready(2));
+    private static void notSoMany() {
+        for (int i : new int[] {5, 6, 19, 20, 21, Integer.MAX_VALUE - 1, Integer.MAX_VALUE}) {
+            check.keeps("ready(" + i + ") of five", -1, Promise13ReadyTest::fiveOrders, x -> x.ready(i));
+        }
+        check.keeps("ready(4) of five", 4, Promise13ReadyTest::fiveOrders, x -> x.ready(4));
+        check.keeps("ready(0) of five", 3, Promise13ReadyTest::fiveOrders, x -> x.ready(0));
+        check.keeps("ready(20) of twenty", -1, Scenes::fullOfOrders, x -> x.ready(20));
+        check.keeps("ready(19) of twenty", 17, Scenes::fullOfOrders, x -> x.ready(19));
+    }
+
+    private static void belowZero() {
+        for (int i : new int[] {-1, -2, Integer.MIN_VALUE + 1, Integer.MIN_VALUE}) {
+            check.refuses("ready(" + i + ")", Check.ARGUMENT, Promise13ReadyTest::fiveOrders, x -> x.ready(i));
+            check.refuses("ready(" + i + ") when full", Check.ARGUMENT, Scenes::full, x -> x.ready(i));
+        }
     }
 }

@@ -5,7 +5,10 @@ public final class Promise14ToldTest {
         whole();
         phases();
         shortPieces();
-        refusals();
+        greatestShort();
+        mergedInto();
+        ordersThatThereAre();
+        whats();
         check.end();
     }
 
@@ -64,18 +67,49 @@ public final class Promise14ToldTest {
         check.due("short when CLOSED", 1004, x.told(0, 9));
     }
 
-    private static void refusals() {
-        refuses(Check.NO_SUCH, -1, 0);
-        refuses(Check.NO_SUCH, 1, 0);
-        refuses(Check.NO_SUCH, 1, 10);
-        refuses(Check.NO_SUCH, Integer.MIN_VALUE, -1);
-        refuses(Check.ARGUMENT, 0, -1);
-        refuses(Check.ARGUMENT, 0, 10);
-        refuses(Check.ARGUMENT, 0, Integer.MAX_VALUE);
+    private static void greatestShort() {
+        OrderRows3 x = new OrderRows3();
+        x.order(0, 1, 1, 0);
+        for (int k = 0; k < 8; k++) {
+            x.line(0, k, 1000, 4);
+        }
+        for (int phase = Scenes.OPEN; phase < Scenes.GONE; phase++) {
+            check.due("short in phase " + phase, 0, x.told(0, 9));
+            x.goOn(0);
+        }
+        check.due("short of eight lines", 8000, x.told(0, 9));
     }
 
-    private static void refuses(Class<? extends RuntimeException> due, int order, int what) {
-        check.refuses("told(" + order + ", " + what + ")", due,
-                () -> Scenes.atPhase(Scenes.OPEN), x -> x.told(order, what));
+    /** Order 0 may be the one into which another was merged. */
+    private static void mergedInto() {
+        OrderRows3 x = Scenes.full();
+        check.due("not merged", -1, x.told(4, 8));
+        x.join(0, 4);
+        x.join(19, 15);
+        check.due("merged into the first", 0, x.told(4, 8));
+        check.due("merged into the last", 19, x.told(15, 8));
+        check.due("the first is not merged", -1, x.told(0, 8));
+    }
+
+    private static void ordersThatThereAre() {
+        for (int what = 0; what < 10; what++) {
+            int at = what;
+            check.refusesOutside("told " + what + " of order", Check.NO_SUCH, 0, 0,
+                    () -> Scenes.atPhase(Scenes.OPEN), (x, v) -> x.told(v, at));
+        }
+        check.refusesOutside("told of order, when full of orders,", Check.NO_SUCH, 0, 19, Scenes::fullOfOrders,
+                (x, v) -> x.told(v, 0));
+        check.keeps("the own number of the first of 20", 100, Scenes::fullOfOrders, x -> x.told(0, 2));
+        check.keeps("the own number of the last of 20", 119, Scenes::fullOfOrders, x -> x.told(19, 2));
+    }
+
+    private static void whats() {
+        for (int phase = Scenes.OPEN; phase <= Scenes.MERGED; phase++) {
+            int at = phase;
+            check.refusesOutside("in phase " + phase + " told", Check.ARGUMENT, 0, 9,
+                    () -> Scenes.atPhase(at), (x, v) -> x.told(0, v));
+        }
+        check.keeps("told(0, 0)", 0, () -> Scenes.atPhase(Scenes.OPEN), x -> x.told(0, 0));
+        check.keeps("told(0, 9)", 4, () -> Scenes.atPhase(Scenes.GONE), x -> x.told(0, 9));
     }
 }

@@ -3,7 +3,10 @@ public final class Promise15LineOfTest {
 
     public static void main(String[] args) {
         inItsOrder();
-        refusals();
+        withoutLines();
+        notSoMany();
+        ordersThatThereAre();
+        belowZero();
         check.end();
     }
 
@@ -40,15 +43,39 @@ public final class Promise15LineOfTest {
         linesOf("eight lines", Scenes.eightLines(), 0, 0, 1, 2, 3, 4, 5, 6, 7);
     }
 
-    private static void refusals() {
-        refuses(Check.NO_SUCH, -1, 0);
-        refuses(Check.NO_SUCH, 2, 0);
-        refuses(Check.NO_SUCH, 2, -1);
-        refuses(Check.ARGUMENT, 0, -1);
-        refuses(Check.ARGUMENT, 0, Integer.MIN_VALUE);
+    private static void withoutLines() {
+        linesOf("no line yet", Scenes.orders(1), 0);
+        linesOf("MERGED", Scenes.atPhase(Scenes.MERGED), 0);
+        linesOf("CANCELLED", Scenes.atPhase(Scenes.CANCELLED), 0, 0);
+        linesOf("CLOSED", Scenes.atPhase(Scenes.CLOSED), 0, 0);
     }
 
-    private static void refuses(Class<? extends RuntimeException> due, int order, int i) {
-        check.refuses("lineOf(" + order + ", " + i + ")", due, Promise15LineOfTest::twoOrders, x -> x.lineOf(order, i));
+    private static void notSoMany() {
+        check.keeps("the eighth of eight", 7, Scenes::eightLines, x -> x.lineOf(0, 7));
+        for (int i : new int[] {8, 9, 60, Integer.MAX_VALUE - 1, Integer.MAX_VALUE}) {
+            check.keeps("lineOf(0, " + i + ") of eight", -1, Scenes::eightLines, x -> x.lineOf(0, i));
+            check.keeps("lineOf(0, " + i + ") when MERGED", -1,
+                    () -> Scenes.atPhase(Scenes.MERGED), x -> x.lineOf(0, i));
+        }
+        check.keeps("the last line of the last order", 59, Scenes::full, x -> x.lineOf(19, 2));
+        check.keeps("behind the last line of the last order", -1, Scenes::full, x -> x.lineOf(19, 3));
+    }
+
+    private static void ordersThatThereAre() {
+        check.refusesOutside("lineOf of order", Check.NO_SUCH, 0, 1, Promise15LineOfTest::twoOrders,
+                (x, v) -> x.lineOf(v, 0));
+        check.refusesOutside("lineOf of order, when full,", Check.NO_SUCH, 0, 19, Scenes::full,
+                (x, v) -> x.lineOf(v, 0));
+    }
+
+    private static void belowZero() {
+        for (int i : new int[] {-1, -2, Integer.MIN_VALUE + 1, Integer.MIN_VALUE}) {
+            check.refuses("lineOf(0, " + i + ")", Check.ARGUMENT, Promise15LineOfTest::twoOrders,
+                    x -> x.lineOf(0, i));
+            check.refuses("lineOf(0, " + i + ") when MERGED", Check.ARGUMENT,
+                    () -> Scenes.atPhase(Scenes.MERGED), x -> x.lineOf(0, i));
+            check.refuses("lineOf(0, " + i + ") without lines", Check.ARGUMENT,
+                    () -> Scenes.orders(1), x -> x.lineOf(0, i));
+        }
     }
 }

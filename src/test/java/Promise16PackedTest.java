@@ -4,8 +4,9 @@ public final class Promise16PackedTest {
     public static void main(String[] args) {
         everyPart();
         greatestParts();
+        leastParts();
         alongTheWay();
-        refusals();
+        linesThatThereAre();
         check.end();
     }
 
@@ -53,6 +54,23 @@ public final class Promise16PackedTest {
         check.due("all at their greatest", due, x.packed(0));
     }
 
+    private static void leastParts() {
+        OrderRows3 x = new OrderRows3();
+        x.order(0, 1, 1, 0);
+        x.line(0, 0, 1, 0);
+        check.due("all at their least", 1 << 12 | 1L << 52, x.packed(0));
+        x.change(0, 2, 2);
+        x.change(0, 1, 1);
+        check.due("good 1 instead of 0", 2 << 4 | 2 << 9 | 1 << 12 | 1L << 52, x.packed(0));
+        x.cancel(0);
+        check.due("cancelled", 2 << 4 | 2 << 9, x.packed(0));
+        OrderRows3 zero = new OrderRows3();
+        zero.order(0, 1, 1, 0);
+        zero.line(0, 1, 1, 2);
+        zero.change(0, 1, 0);
+        check.due("good 0 instead of 1", 1 | 1 << 4 | 2 << 9 | 1 << 12 | 1L << 52, zero.packed(0));
+    }
+
     private static void alongTheWay() {
         OrderRows3 x = Scenes.atPhase(Scenes.OPEN);
         parts("OPEN", x.packed(0), 2, 0, 3, 10, 6, 0, 0, 1, 0, 0);
@@ -65,10 +83,15 @@ public final class Promise16PackedTest {
         parts("CLOSED", Scenes.atPhase(Scenes.CLOSED).packed(0), 2, 0, 3, 10, 6, 6, 6, 1, 0, 0);
     }
 
-    private static void refusals() {
-        check.refuses("packed(-1)", Check.NO_SUCH, () -> Scenes.atPhase(Scenes.OPEN), x -> x.packed(-1));
-        check.refuses("packed(1)", Check.NO_SUCH, () -> Scenes.atPhase(Scenes.OPEN), x -> x.packed(1));
-        check.refuses("packed of the least int", Check.NO_SUCH,
-                () -> Scenes.atPhase(Scenes.OPEN), x -> x.packed(Integer.MIN_VALUE));
+    private static void linesThatThereAre() {
+        check.refusesOutside("packed of line", Check.NO_SUCH, 0, 0, () -> Scenes.atPhase(Scenes.OPEN),
+                (x, v) -> x.packed(v));
+        check.refusesOutside("packed of line, when there is an order without lines,", Check.NO_SUCH, 0, -1,
+                () -> Scenes.orders(1), (x, v) -> x.packed(v));
+        check.refusesOutside("packed of line, when full,", Check.NO_SUCH, 0, 59, Scenes::full, (x, v) -> x.packed(v));
+        OrderRows3 x = Scenes.full();
+        for (int line = 0; line < 60; line++) {
+            parts("line " + line, x.packed(line), line % 16, 0, 4, 1 + line, 0, 0, 0, 1, 0, line % 20);
+        }
     }
 }

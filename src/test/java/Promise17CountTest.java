@@ -4,6 +4,8 @@ public final class Promise17CountTest {
     public static void main(String[] args) {
         phases();
         severalOrders();
+        fullCounts();
+        greatestCounts();
         otherWhats();
         check.end();
     }
@@ -46,12 +48,47 @@ public final class Promise17CountTest {
         counts("cancelled lines hold nothing", x, 3, 4, 8, 9);
     }
 
+    private static void fullCounts() {
+        counts("none", new OrderRows3(), 0, 0, 0, 0);
+        counts("19 orders", Scenes.nineteenOrders(), 19, 0, 0, 0);
+        counts("20 orders", Scenes.fullOfOrders(), 20, 0, 0, 0);
+        counts("59 lines", Scenes.lines(59), 8, 59, 0, 0);
+        counts("60 lines", Scenes.fullOfLines(), 8, 60, 0, 0);
+        counts("20 orders and 60 lines", Scenes.full(), 20, 60, 0, 0);
+    }
+
+    /** Sixty lines of a thousand pieces: held, then shipped order by order. */
+    private static void greatestCounts() {
+        OrderRows3 x = new OrderRows3();
+        for (int order = 0; order < 8; order++) {
+            x.order(0, 1 + order, 1, 0);
+        }
+        for (int line = 0; line < 60; line++) {
+            x.line(line / 8, 1, 1000, 0);
+            x.hold(line, 1000);
+        }
+        counts("all held", x, 8, 60, 60000, 0);
+        for (int order = 0; order < 8; order++) {
+            x.goOn(order);
+            x.goOn(order);
+        }
+        for (int line = 0; line < 60; line++) {
+            x.pick(line, 1000);
+        }
+        for (int order = 0; order < 8; order++) {
+            x.goOn(order);
+            counts("PACKED", x, 8, 60, 60000 - 8000 * order, 8000 * order);
+            x.goOn(order);
+        }
+        counts("all shipped", x, 8, 60, 0, 60000);
+    }
+
     private static void otherWhats() {
-        OrderRows3 x = Scenes.atPhase(Scenes.OPEN);
-        check.due("count(-1)", -1, x.count(-1));
-        check.due("count(4)", -1, x.count(4));
-        check.due("count of the least int", -1, x.count(Integer.MIN_VALUE));
-        check.due("count of the greatest int", -1, x.count(Integer.MAX_VALUE));
-        check.keeps("count(2)", 6, () -> Scenes.atPhase(Scenes.OPEN), y -> y.count(2));
+        for (int what : new int[] {Integer.MIN_VALUE, Integer.MIN_VALUE + 1, -1, 4, 256, Integer.MAX_VALUE}) {
+            check.keeps("count(" + what + ")", -1, () -> Scenes.atPhase(Scenes.OPEN), x -> x.count(what));
+            check.keeps("count(" + what + ") when full", -1, Scenes::full, x -> x.count(what));
+        }
+        check.keeps("count(2)", 6, () -> Scenes.atPhase(Scenes.OPEN), x -> x.count(2));
+        check.keeps("count(3)", 6, () -> Scenes.atPhase(Scenes.GONE), x -> x.count(3));
     }
 }

@@ -43,34 +43,103 @@ final class Scenes {
         }
     }
 
-    /** Twenty orders without lines, of the customers 0 to 3. */
-    static OrderRows3 fullOfOrders() {
+    /** CLOSED, with a line that is short and was backordered. */
+    static OrderRows3 closedAndBackordered() {
+        OrderRows3 x = atPhase(GONE, 7);
+        x.backorder(0);
+        x.goOn(0);
+        return x;
+    }
+
+    /** Order 0 with line 0, that wants so many and holds none. */
+    static OrderRows3 wants(int wanted, int rules) {
         OrderRows3 x = new OrderRows3();
-        for (int k = 0; k < 20; k++) {
+        x.order(0, 1, 1, 0);
+        x.line(0, 1, wanted, rules);
+        return x;
+    }
+
+    /** Order 0 with the lines 0, cancelled, and 1, live and for BACKORDER; it has gone on so far. */
+    static OrderRows3 cancelledBesideLive(int phase) {
+        OrderRows3 x = new OrderRows3();
+        x.order(0, 1, 1, 0);
+        x.line(0, 2, 10, 7);
+        x.line(0, 2, 10, 4);
+        x.hold(0, 3);
+        x.cancel(0);
+        for (int k = 0; k < phase; k++) {
+            x.goOn(0);
+        }
+        return x;
+    }
+
+    /** As many orders without lines, of the customers 0 to 3. */
+    static OrderRows3 orders(int count) {
+        OrderRows3 x = new OrderRows3();
+        for (int k = 0; k < count; k++) {
             x.order(k % 4, 100 + k, 1 + k % 9, k);
         }
         return x;
     }
 
-    /** Eight orders of customer 0: 8 lines each in the first seven, 4 in the last. */
-    static OrderRows3 fullOfLines() {
+    static OrderRows3 nineteenOrders() {
+        return orders(19);
+    }
+
+    static OrderRows3 fullOfOrders() {
+        return orders(20);
+    }
+
+    /** Eight orders of customer 0: 8 lines each in the first seven, the others in the last. */
+    static OrderRows3 lines(int count) {
         OrderRows3 x = new OrderRows3();
         for (int k = 0; k < 8; k++) {
             x.order(0, 1 + k, 1, k);
         }
-        for (int k = 0; k < 60; k++) {
+        for (int k = 0; k < count; k++) {
             x.line(k / 8, k % 16, 1 + k, 0);
         }
         return x;
     }
 
-    /** Order 0 with eight lines. */
-    static OrderRows3 eightLines() {
+    static OrderRows3 fullOfLines() {
+        return lines(60);
+    }
+
+    /** Twenty orders with the lines k, k + 20 and k + 40 each. */
+    static OrderRows3 full() {
+        OrderRows3 x = fullOfOrders();
+        for (int k = 0; k < 60; k++) {
+            x.line(k % 20, k % 16, 1 + k, 4);
+        }
+        return x;
+    }
+
+    /** Order 0 with as many lines. */
+    static OrderRows3 linesOfOne(int count) {
         OrderRows3 x = new OrderRows3();
         x.order(0, 1, 1, 0);
-        for (int k = 0; k < 8; k++) {
+        for (int k = 0; k < count; k++) {
             x.line(0, k, 5, 0);
         }
         return x;
+    }
+
+    static OrderRows3 eightLines() {
+        return linesOfOne(8);
+    }
+
+    /** The scene, and this done to it. */
+    static Check.Scene then(Check.Scene scene, Check.Call call) {
+        return () -> {
+            OrderRows3 x = scene.make();
+            call.on(x);
+            return x;
+        };
+    }
+
+    static long join(OrderRows3 x, int order, int other) {
+        x.join(order, other);
+        return 0;
     }
 }

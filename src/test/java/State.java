@@ -1,5 +1,11 @@
-/** All that an object tells of itself, as one text. The largest takes fewer than 370 calls. */
+/**
+ * All that an object tells of itself, as one text. The largest takes fewer than 370 calls; the rows end at their
+ * limits too, so that a program that never tells their end fails here instead of running on.
+ */
 final class State {
+    private static final int MOST_ORDERS = 20;
+    private static final int MOST_LINES_OF_ORDER = 8;
+
     private State() {
     }
 
@@ -26,19 +32,19 @@ final class State {
             text.append(' ').append(x.told(order, what));
         }
         text.append(" of");
-        int line = x.lineOf(order, 0);
-        for (int i = 1; line >= 0; i++) {
-            text.append(' ').append(line);
+        int line = 0;
+        for (int i = 0; line >= 0 && i <= MOST_LINES_OF_ORDER; i++) {
             line = x.lineOf(order, i);
+            text.append(' ').append(line);
         }
     }
 
     private static void addReady(StringBuilder text, OrderRows3 x) {
         text.append("| ready");
-        int order = x.ready(0);
-        for (int i = 1; order >= 0; i++) {
-            text.append(' ').append(order);
+        int order = 0;
+        for (int i = 0; order >= 0 && i <= MOST_ORDERS; i++) {
             order = x.ready(i);
+            text.append(' ').append(order);
         }
     }
 }
