@@ -482,7 +482,8 @@ public final class OrderRows3 {
         }
 
         void takeLinesOf(Order from) {
-            for (int k = 0; k < from.lines.size(); k++) {
+            int count = from.lines.size();
+            for (int k = 0; k < count; k++) {
                 Line row = from.lines.get(k);
                 row.home = this;
                 lines.add(row);

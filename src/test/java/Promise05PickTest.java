@@ -97,17 +97,7 @@ public final class Promise05PickTest {
                 () -> Scenes.cancelledBesideLive(Scenes.PICKING), x -> x.pick(0, 1));
         OrderRows3 x = picking();
         check.due("a live line", 1, x.pick(0, 1));
-        check.refuses("a line cancelled while picked", Check.STATE, Promise05PickTest::cancelledWhilePicked,
-                y -> y.pick(0, 1));
-    }
-
-    private static OrderRows3 cancelledWhilePicked() {
-        OrderRows3 x = Scenes.atPhase(Scenes.OPEN, 7);
-        x.line(0, 1, 5, 4);
-        x.goOn(0);
-        x.goOn(0);
-        x.pick(0, 2);
-        x.cancel(0);
-        return x;
+        check.refuses("a line cancelled while picked", Check.STATE,
+                Scenes.then(Scenes::pickingTwoLines, y -> y.cancel(0)), y -> y.pick(0, 1));
     }
 }

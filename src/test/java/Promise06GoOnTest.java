@@ -178,7 +178,7 @@ public final class Promise06GoOnTest {
         for (int rules = 0; rules < 8; rules++) {
             boolean backorder = (rules & 4) != 0;
             int late = rules;
-            Check.Scene gone = () -> goneWithRulesChanged(late);
+            Check.Scene gone = () -> Scenes.goneWithRules(late);
             if (backorder) {
                 check.keeps("short with rules " + late, -1, gone, x -> x.goOn(0));
                 check.answers("backordered with rules " + late, 5, Scenes.then(gone, x -> x.backorder(0)),
@@ -187,28 +187,8 @@ public final class Promise06GoOnTest {
                 check.answers("short with rules " + late, 5, gone, x -> x.goOn(0));
             }
         }
-        check.keeps("one piece short of 1000", -1, () -> goneShort(1000, 999), x -> x.goOn(0));
-        check.answers("none short of 1000", 5, () -> goneShort(1000, 1000), x -> x.goOn(0));
-    }
-
-    private static OrderRows3 goneWithRulesChanged(int rules) {
-        OrderRows3 x = open(4, 10, 0);
-        x.goOn(0);
-        x.change(0, 2, rules);
-        x.goOn(0);
-        x.goOn(0);
-        x.goOn(0);
-        return x;
-    }
-
-    private static OrderRows3 goneShort(int wanted, int held) {
-        OrderRows3 x = open(4, wanted, held);
-        x.goOn(0);
-        x.goOn(0);
-        x.pick(0, held);
-        x.goOn(0);
-        x.goOn(0);
-        return x;
+        check.keeps("one piece short of 1000", -1, () -> Scenes.goneShort(1000, 999), x -> x.goOn(0));
+        check.answers("none short of 1000", 5, () -> Scenes.goneShort(1000, 1000), x -> x.goOn(0));
     }
 
     private static OrderRows3 gone(int rules) {
@@ -221,7 +201,7 @@ public final class Promise06GoOnTest {
         OrderRows3 x = gone(5);
         x.backorder(0);
         check.due("backordered", 5, x.goOn(0));
-        check.due("for BACKORDER, not short", 5, goneShort(2, 2).goOn(0));
+        check.due("for BACKORDER, not short", 5, Scenes.goneShort(2, 2).goOn(0));
         check.keeps("one of two backordered", -1, Promise06GoOnTest::oneOfTwoBackordered, y -> y.goOn(0));
         OrderRows3 both = oneOfTwoBackordered();
         both.backorder(1);

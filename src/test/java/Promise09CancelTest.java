@@ -27,17 +27,8 @@ public final class Promise09CancelTest {
         }
     }
 
-    private static OrderRows3 pickingTwoLines() {
-        OrderRows3 x = Scenes.atPhase(Scenes.OPEN, 7);
-        x.line(0, 5, 4, 4);
-        x.goOn(0);
-        x.goOn(0);
-        x.pick(0, 2);
-        return x;
-    }
-
     private static void oneOfTwo() {
-        OrderRows3 x = pickingTwoLines();
+        OrderRows3 x = Scenes.pickingTwoLines();
         check.due("held 6, picked 2", 6, x.cancel(0));
         check.due("picked then", 0, Packed.picked(x.packed(0)));
         check.due("held then", 0, Packed.held(x.packed(0)));
@@ -47,7 +38,7 @@ public final class Promise09CancelTest {
         check.due("the line stays in its place", 0, x.lineOf(0, 0));
         check.due("nothing held", 0, x.cancel(1));
         check.due("the last one", Scenes.CANCELLED, x.told(0, 0));
-        OrderRows3 other = pickingTwoLines();
+        OrderRows3 other = Scenes.pickingTwoLines();
         other.cancel(1);
         check.due("the second one", Scenes.PICKING, other.told(0, 0));
         check.due("the first one stays live", 1, Packed.live(other.packed(0)));

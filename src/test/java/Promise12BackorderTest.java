@@ -5,6 +5,8 @@ public final class Promise12BackorderTest {
         backorders();
         withoutGoodInstead();
         backorderOfBackorder();
+        sameCustomerRankAndDay();
+        sameGoodAndRules();
         leastAndGreatestShort();
         linesThatThereAre();
         goneAlone();
@@ -74,31 +76,55 @@ public final class Promise12BackorderTest {
         return x;
     }
 
-    private static OrderRows3 goneShort(int wanted, int held) {
-        OrderRows3 x = Scenes.wants(wanted, 4);
-        if (held > 0) {
-            x.hold(0, held);
+    private static void sameCustomerRankAndDay() {
+        takesOver(0, 1, 0, 10000);
+        takesOver(7, 9, 10000, 0);
+        takesOver(3, 4, 70, 70);
+    }
+
+    /** The day is the one it is GONE with, the own number is 0. */
+    private static void takesOver(int customer, int rank, int firstDay, int day) {
+        OrderRows3 x = new OrderRows3();
+        x.order(customer, 99999, rank, firstDay);
+        x.line(0, 1, 1, 4);
+        x.move(0, day);
+        for (int k = 0; k < 4; k++) {
+            x.goOn(0);
         }
-        x.goOn(0);
-        x.goOn(0);
-        if (held > 0) {
-            x.pick(0, held);
+        x.backorder(0);
+        check.due("customer", customer, x.told(1, 1));
+        check.due("own number", 0, x.told(1, 2));
+        check.due("rank", rank, x.told(1, 3));
+        check.due("day", day, x.told(1, 4));
+    }
+
+    private static void sameGoodAndRules() {
+        for (int good = 0; good < 16; good += 15) {
+            for (int rules = 4; rules < 8; rules++) {
+                OrderRows3 x = new OrderRows3();
+                x.order(0, 1, 1, 0);
+                x.line(0, good, 1, 4);
+                x.change(0, 2, rules);
+                for (int k = 0; k < 4; k++) {
+                    x.goOn(0);
+                }
+                x.backorder(0);
+                check.due("good", good, Packed.good(x.packed(1)));
+                check.due("rules", rules, Packed.rules(x.packed(1)));
+            }
         }
-        x.goOn(0);
-        x.goOn(0);
-        return x;
     }
 
     private static void leastAndGreatestShort() {
         int[][] wantedAndHeld = {{1, 0}, {1000, 0}, {1000, 1}, {1000, 999}};
         for (int[] row : wantedAndHeld) {
-            OrderRows3 x = goneShort(row[0], row[1]);
+            OrderRows3 x = Scenes.goneShort(row[0], row[1]);
             check.due("short", row[0] - row[1], x.told(0, 9));
             check.due("backorder of " + row[0] + " with " + row[1], 1, x.backorder(0));
             check.due("wanted there", row[0] - row[1], Packed.wanted(x.packed(1)));
         }
-        check.refuses("1 of 1 shipped", Check.STATE, () -> goneShort(1, 1), x -> x.backorder(0));
-        check.refuses("1000 of 1000 shipped", Check.STATE, () -> goneShort(1000, 1000), x -> x.backorder(0));
+        check.refuses("1 of 1 shipped", Check.STATE, () -> Scenes.goneShort(1, 1), x -> x.backorder(0));
+        check.refuses("1000 of 1000 shipped", Check.STATE, () -> Scenes.goneShort(1000, 1000), x -> x.backorder(0));
     }
 
     /** Line 0 is cancelled, line 1 not short, line 2 short but not for BACKORDER. */
@@ -150,19 +176,9 @@ public final class Promise12BackorderTest {
         }
         for (int rules = 0; rules < 4; rules++) {
             int bits = rules;
-            check.refuses("rules " + bits, Check.STATE, () -> goneWithRules(bits), x -> x.backorder(0));
-            check.answers("rules " + (bits + 4), 1, () -> goneWithRules(bits + 4), x -> x.backorder(0));
+            check.refuses("rules " + bits, Check.STATE, () -> Scenes.goneWithRules(bits), x -> x.backorder(0));
+            check.answers("rules " + (bits + 4), 1, () -> Scenes.goneWithRules(bits + 4), x -> x.backorder(0));
         }
-    }
-
-    private static OrderRows3 goneWithRules(int rules) {
-        OrderRows3 x = Scenes.wants(10, 4);
-        x.goOn(0);
-        x.change(0, 2, rules);
-        x.goOn(0);
-        x.goOn(0);
-        x.goOn(0);
-        return x;
     }
 
     private static void once() {

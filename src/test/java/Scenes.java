@@ -59,6 +59,43 @@ final class Scenes {
         return x;
     }
 
+    /** Order 0 is GONE; of its line 0, for BACKORDER, so many are wanted and so many shipped. */
+    static OrderRows3 goneShort(int wanted, int shipped) {
+        OrderRows3 x = wants(wanted, 4);
+        if (shipped > 0) {
+            x.hold(0, shipped);
+        }
+        x.goOn(0);
+        x.goOn(0);
+        if (shipped > 0) {
+            x.pick(0, shipped);
+        }
+        x.goOn(0);
+        x.goOn(0);
+        return x;
+    }
+
+    /** Order 0 is GONE, its line 0 short of all 10; the line had these rules since it was ALLOCATED. */
+    static OrderRows3 goneWithRules(int rules) {
+        OrderRows3 x = wants(10, 4);
+        x.goOn(0);
+        x.change(0, 2, rules);
+        x.goOn(0);
+        x.goOn(0);
+        x.goOn(0);
+        return x;
+    }
+
+    /** Order 0 is PICKING: 2 of the 6 pieces held for line 0 are picked, nothing is held for line 1. */
+    static OrderRows3 pickingTwoLines() {
+        OrderRows3 x = atPhase(OPEN, 7);
+        x.line(0, 5, 4, 4);
+        x.goOn(0);
+        x.goOn(0);
+        x.pick(0, 2);
+        return x;
+    }
+
     /** Order 0 with the lines 0, cancelled, and 1, live and for BACKORDER; it has gone on so far. */
     static OrderRows3 cancelledBesideLive(int phase) {
         OrderRows3 x = new OrderRows3();
